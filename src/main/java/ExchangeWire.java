@@ -462,7 +462,7 @@ public final class ExchangeWire {
         }
 
         private void add(int sign) {
-            if (isBelow(length, MOST)) {
+            if (length >= 0 && length < MOST) {
                 signs[length] = sign;
                 length++;
             }

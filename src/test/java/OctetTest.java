@@ -40,6 +40,9 @@ public final class OctetTest {
         bench.due("answer", Bench.heard(x, 0), Bench.sealed("Y0S4"));
         bench.due("-1", x.octet(0, -1), 1);
         bench.due("13 + 256", x.octet(0, 13 + 256), 0);
+        bench.due("13 + 128 is no end", x.octet(0, 13 + 128), 1);
+        bench.due("the end", x.octet(0, 13), 0);
+        bench.due("'S' + 128 is no S", Bench.sendRaw(x, 0, (char) ('S' + 128) + "5Z88"), "NZ4E");
         bench.due("lowest", x.octet(0, Integer.MIN_VALUE), 1);
         bench.due("highest", x.octet(0, Integer.MAX_VALUE), 2);
     }

@@ -80,6 +80,8 @@ public final class RowsTest {
         bench.due("4 waits no more", x.waits(5, 0), 6);
         bench.due("one waits", x.waits(5, 1), -1);
         bench.due("it was lent to 3", x.act(4, 3), 3);
+        bench.due("a row has no number", x.act(4, 4), -1);
+        bench.due("nor has the next", x.act(5, 4), -1);
         bench.dueVerdict(x, 0, "R5a4|b5|", "X0R5");
         bench.dueVerdict(x, 0, "I6b5|", "Y5I6");
     }

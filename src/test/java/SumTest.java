@@ -5,6 +5,7 @@ public final class SumTest {
         ExchangeWire x = new ExchangeWire();
         bench.due("sum(0)", x.sum(0), 0);
         bench.due("sum(200)", x.sum(200), 200);
+        bench.due("sum(0) adds nothing", x.sum(0), 200);
         bench.due("sum(55)", x.sum(55), 255);
         bench.due("sum(1)", x.sum(1), 0);
         bench.due("sum(300)", x.sum(300), 44);

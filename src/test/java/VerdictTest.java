@@ -7,6 +7,7 @@ public final class VerdictTest {
         lending(bench);
         owing(bench);
         waiting(bench);
+        waitingAgain(bench);
         renewing(bench);
         paying(bench);
         bench.end();
@@ -81,6 +82,20 @@ public final class VerdictTest {
         bench.due("nobody else", x.waits(5, 1), -1);
         ask(bench, x, "H", "a4|b5|", "X1");
         ask(bench, x, "H", "a3|b5|", "Y2");
+    }
+
+    private static void waitingAgain(Bench bench) {
+        ExchangeWire x = signedOn();
+        ask(bench, x, "C", "a3|b5|", "Y1");
+        ask(bench, x, "H", "a0|b5|", "Y1");
+        ask(bench, x, "B", "b5|", "Y1");
+        ask(bench, x, "C", "a0|b5|", "Y1");
+        ask(bench, x, "H", "a3|b5|", "Y1");
+        ask(bench, x, "B", "b5|", "Y1");
+        ask(bench, x, "C", "a3|b5|", "Y1");
+        ask(bench, x, "H", "a0|b5|", "Y1");
+        ask(bench, x, "C", "a1|b6|", "Y1");
+        ask(bench, x, "H", "a0|b6|", "Y1");
     }
 
     private static void renewing(Bench bench) {
