@@ -243,7 +243,7 @@ public final class ModelTest {
         }
     }
 
-    private final Bench bench = new Bench();
+    private final Bench bench;
     private final Random drawn;
     private final ExchangeWire x = new ExchangeWire();
     private final Model model = new Model();
@@ -253,7 +253,8 @@ public final class ModelTest {
     private int calls = 0;
     private int number = 0;
 
-    private ModelTest(long seed) {
+    private ModelTest(Bench bench, long seed) {
+        this.bench = bench;
         drawn = new Random(seed);
         devices = 1 + drawn.nextInt(3);
         persons = 2 + drawn.nextInt(4);
@@ -261,21 +262,19 @@ public final class ModelTest {
     }
 
     public static void main(String[] args) {
-        for (int run = 0; run < RUNS; run++) {
-            ModelTest test = new ModelTest(run);
+        Bench bench = new Bench();
+        for (int run = 0; run < RUNS && !bench.hasWrong(); run++) {
             try {
-                test.run();
+                new ModelTest(bench, run).run();
             } catch (RuntimeException e) {
                 System.out.println("run " + run + " threw " + e);
                 System.exit(1);
             }
-            if (run == RUNS - 1) {
-                test.bench.end();
-            } else if (test.bench.hasWrong()) {
+            if (bench.hasWrong()) {
                 System.out.println("in run " + run);
-                test.bench.end();
             }
         }
+        bench.end();
     }
 
     private int draw(int bound) {
