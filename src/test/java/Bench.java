@@ -6,12 +6,18 @@ final class Bench {
 
     private int calls = 0;
     private int wrong = 0;
+    private String due = ", due is ";
+
+    /** The document's words that ask for what is due from here on. */
+    void by(String words) {
+        due = ", due by \"" + words + "\" is ";
+    }
 
     void due(String call, int got, int want) {
         calls++;
         if (got != want) {
             wrong++;
-            System.out.println(call + " answered " + got + ", due is " + want);
+            System.out.println(call + " answered " + got + due + want);
         }
     }
 
@@ -19,7 +25,7 @@ final class Bench {
         calls++;
         if (!got.equals(want)) {
             wrong++;
-            System.out.println(call + " answered " + got + ", due is " + want);
+            System.out.println(call + " answered " + got + due + want);
         }
     }
 
