@@ -322,7 +322,7 @@ public final class CallEdgesTest {
 
     /**
      * An act takes a call, so that no object has its 1000th within its 512 calls; the class keeps to the sentence
-     * all the same, and this is the one test that looks behind the 512th call.
+     * all the same, so this test goes on behind the 512th call.
      */
     private static void firstThousandActs(Bench bench) {
         bench.by("(the first 1000 are told)");
