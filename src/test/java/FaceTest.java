@@ -2,10 +2,11 @@ import java.lang.reflect.Constructor;
 import java.lang.reflect.Field;
 import java.lang.reflect.Method;
 import java.lang.reflect.Modifier;
+import java.util.Arrays;
 import java.util.Set;
 import java.util.TreeSet;
 
-/** The public face, and rules 1 and 5 of LANGUAGE.md as far as the class itself shows them. */
+/** The public face, and rules 1, 5 and 7 of LANGUAGE.md as far as the class itself shows them. */
 public final class FaceTest {
     private static final Set<String> FACE = Set.of(
         "octet(int,int)", "answer(int,int)", "reset(int)", "offline(int,int,int,int)", "join(int)", "owes(int,int)",
@@ -22,8 +23,12 @@ public final class FaceTest {
         }
         methods(bench, face);
         fields(bench, face);
+        ownThrow(bench);
         for (Class<?> inside : face.getDeclaredClasses()) {
-            bench.due(inside + " is static", Modifier.isStatic(inside.getModifiers()) ? 1 : 0, 1);
+            int modifiers = inside.getModifiers();
+            bench.due(inside + " is static", Modifier.isStatic(modifiers) ? 1 : 0, 1);
+            boolean shown = Modifier.isPublic(modifiers) || Modifier.isProtected(modifiers);
+            bench.due(inside + " is public or protected", shown ? 1 : 0, 0);
             for (Field field : inside.getDeclaredFields()) {
                 staticIsFinal(bench, field);
             }
@@ -45,6 +50,8 @@ public final class FaceTest {
             } else {
                 shown.add(called);
                 bench.due(called, Modifier.toString(method.getModifiers()) + " " + method.getReturnType(), "public int");
+                bench.due("what " + called + " throws", Arrays.toString(method.getExceptionTypes()),
+                    method.getName().equals("answer") ? "[class java.lang.ArrayIndexOutOfBoundsException]" : "[]");
             }
         }
         bench.due("the methods", shown.toString(), new TreeSet<>(FACE).toString());
@@ -53,9 +60,35 @@ public final class FaceTest {
     private static void fields(Bench bench, Class<?> face) {
         for (Field field : face.getDeclaredFields()) {
             boolean isNone = field.getName().equals("NONE");
-            bench.due(field + " is private", Modifier.isPrivate(field.getModifiers()) || isNone ? 1 : 0, 1);
+            String shown = Modifier.toString(field.getModifiers()) + " " + field.getType();
+            if (isNone) {
+                bench.due("NONE is", shown, "public static final int");
+            } else {
+                bench.due(field + " is private", Modifier.isPrivate(field.getModifiers()) ? 1 : 0, 1);
+            }
             staticIsFinal(bench, field);
         }
+    }
+
+    /** The machine's own exceptions of an index begin their text with "Index" or "Array index". */
+    private static void ownThrow(Bench bench) {
+        ExchangeWire x = new ExchangeWire();
+        Bench.send(x, 0, "S1");
+        int[][] places = {{0, -1}, {0, 8}, {0, 99}, {0, Integer.MIN_VALUE}, {1, 0}, {-1, 0}, {6, 0}};
+        for (int[] place : places) {
+            String call = "answer(" + place[0] + ", " + place[1] + ")";
+            String text = "nothing thrown";
+            try {
+                x.answer(place[0], place[1]);
+            } catch (ArrayIndexOutOfBoundsException e) {
+                text = e.getClass().getSimpleName() + (isTheMachines(e) ? " of the machine" : "");
+            }
+            bench.due(call, text, "ArrayIndexOutOfBoundsException");
+        }
+    }
+
+    private static boolean isTheMachines(ArrayIndexOutOfBoundsException e) {
+        return e.getMessage() != null && e.getMessage().matches("(Array i|I)ndex.*");
     }
 
     private static void staticIsFinal(Bench bench, Field field) {
